@@ -282,6 +282,13 @@ public final class PromiseTest {
         currents("laxity 7 and 6, the second point first", park, 0, 32);
         c.same("steps 2 and 3", park.step(2), 32 + 8 + 18);
         c.same("both are done", park.need(0) + park.need(1), 0);
+        ChargePark slow = park(0, ALL);
+        slow.plugIn(0, 3, 1, 9);
+        slow.plugIn(1, 4, 1, 9);
+        c.same("step: 1 unit, and 3 at ALL", slow.step(1), 4);
+        c.same("step: 1 unit, and the last one at ALL", slow.step(1), 2);
+        c.same("step: a need of 1", slow.step(1), 1);
+        c.same("step: nothing more", slow.step(1), 0);
     }
 
     // promises 11 and 12
@@ -409,6 +416,12 @@ public final class PromiseTest {
         park.step(1);
         c.same("reach: need done", park.reach(0), 0);
         c.same("reach: need done", park.reach(1), 0);
+        park.takeOut(0);
+        park.takeOut(1);
+        park.plugIn(0, 1, 32, 1);
+        park.plugIn(1, 1, 32, 1);
+        c.same("reach: a need of 1", park.reach(0), 1);
+        c.same("reach: a need of 1 at ALL", park.reach(1), 1);
     }
 
     // promise 19, the rule LEAST_LAXITY
@@ -454,6 +467,14 @@ public final class PromiseTest {
         currents("no room for the one at ALL", park, 4, 15, 14, 0, 3);
         park.appetite(0, 2);
         currents("the appetite bounds", park, 2, 16, 15, 0, 3);
+        ChargePark full = park(0, 0, 0, 1, 1, 1, 2, 2);
+        full.rule(FAIR);
+        for (int point = 0; point < 8; point++) {
+            full.plugIn(point, 5000, 32, 9);
+        }
+        currents("eight points", full, 11, 11, 10, 11, 11, 10, 16, 16);
+        full.takeOut(7);
+        currents("all that a fuse allows to one", full, 11, 11, 10, 11, 11, 10, 32, 0);
     }
 
     // promise 19, the balance
@@ -548,6 +569,11 @@ public final class PromiseTest {
         park.step(50);
         park.step(10);
         c.same("held: no steps left, reach is 0", park.held(), 0);
+        ChargePark dark = park(0, ALL);
+        dark.fuse(0, 0);
+        dark.plugIn(0, 1, 1, 1);
+        dark.plugIn(1, 1, 1, 1);
+        c.same("held: the first point too", dark.held(), 1 | 2);
     }
 
     // promise 23
@@ -572,6 +598,10 @@ public final class PromiseTest {
         c.same("fairLevel: 11 for three, rounded down", park.fairLevel(0), 3666);
         park.fuse(0, 0);
         c.same("fairLevel: nothing to share", park.fairLevel(0), 0);
+        park.fuse(0, 1);
+        c.same("fairLevel: below 1", park.fairLevel(0), 333);
+        park.fuse(0, 2);
+        c.same("fairLevel: below 1", park.fairLevel(0), 666);
         park.fuse(0, 13);
         park.plugIn(3, 5000, 3, 1);
         c.same("fairLevel: less what is given at ALL", park.fairLevel(0), 3333);
@@ -583,6 +613,21 @@ public final class PromiseTest {
         c.same("fairLevel: whatever the balance is", park.fairLevel(0), 4333);
         park.step(9);
         c.same("fairLevel: none is to be given something", park.fairLevel(0), NONE);
+        ChargePark allFirst = park(ALL, 0);
+        allFirst.plugIn(0, 900, 10, 1);
+        allFirst.plugIn(1, 900, 30, 90);
+        c.same("fairLevel: the first point is at ALL", allFirst.fairLevel(0), 22000);
+        allFirst.rule(FAIR);
+        c.same("fairLevel: by the currents of the rule", allFirst.fairLevel(0), 22000);
+        allFirst.appetite(0, 30);
+        c.same("fairLevel: by the currents of the rule", allFirst.fairLevel(0), 16000);
+        allFirst.rule(LEAST_LAXITY);
+        c.same("fairLevel: by the currents of the rule", allFirst.fairLevel(0), 2000);
+        allFirst.fuse(0, 64);
+        allFirst.appetite(1, 32);
+        c.same("fairLevel: the greatest reach is given", allFirst.fairLevel(0), NONE);
+        allFirst.fuse(0, 61);
+        c.same("fairLevel: one less than the greatest reach", allFirst.fairLevel(0), 31000);
     }
 
     // promise 24
@@ -610,5 +655,9 @@ public final class PromiseTest {
         park.fuse(0, 0);
         park.step(3);
         c.no("canBeReady: a need, step of leaving past", park.canBeReady());
+        park.takeOut(1);
+        park.plugIn(1, 1, 1, 1);
+        park.step(1);
+        c.no("canBeReady: a need of 1, step of leaving past", park.canBeReady());
     }
 }
