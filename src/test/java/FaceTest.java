@@ -8,13 +8,30 @@ import java.util.List;
 
 /** The class has the document's public face, and no other member that is not private. */
 public final class FaceTest {
+    private static final String NO_POINT = " throws IndexOutOfBoundsException";
+    private static final String RANGE = " throws IllegalArgumentException";
+    private static final String THEN_RANGE = " IllegalArgumentException";
+    private static final String THEN_STATE = " IllegalStateException";
     private static final String[] METHODS = {
-        "point(int,int)int", "fuse(int,int)int", "balance(int)int", "rule(int)int",
-        "plugIn(int,int,int,int)int", "takeOut(int)int", "appetite(int,int)int", "stay(int,int)int",
-        "step(int)int", "time()int", "points()int", "taken()int", "served()int",
-        "need(int)int", "left(int)int", "laxity(int)int", "reach(int)int",
-        "current(int)int", "load(int)int", "imbalance()int", "held()int", "fairLevel(int)int",
-        "canBeReady()boolean"
+        "int point(int,int)" + RANGE + THEN_STATE,
+        "int fuse(int,int)" + RANGE,
+        "int balance(int)" + RANGE,
+        "int rule(int)" + RANGE,
+        "int plugIn(int,int,int,int)" + NO_POINT + THEN_RANGE + THEN_STATE,
+        "int takeOut(int)" + NO_POINT + THEN_STATE,
+        "int appetite(int,int)" + NO_POINT + THEN_RANGE + THEN_STATE,
+        "int stay(int,int)" + NO_POINT + THEN_RANGE + THEN_STATE,
+        "int step(int)" + RANGE,
+        "int time()", "int points()", "int taken()", "int served()",
+        "int need(int)" + NO_POINT,
+        "int left(int)" + NO_POINT,
+        "int laxity(int)" + NO_POINT + THEN_STATE,
+        "int reach(int)" + NO_POINT,
+        "int current(int)" + NO_POINT,
+        "int load(int)" + RANGE,
+        "int imbalance()", "int held()",
+        "int fairLevel(int)" + RANGE,
+        "boolean canBeReady()"
     };
     private static final String[] CONSTANTS = {"ALL", "FAIR", "LEAST_LAXITY", "NONE"};
 
@@ -24,7 +41,11 @@ public final class FaceTest {
         Constructor<?>[] constructors = ChargePark.class.getDeclaredConstructors();
         checks.same("number of constructors", constructors.length, 1);
         checks.same("parameters of the constructor", constructors[0].getParameterCount(), 0);
-        checks.yes("constructor is public", Modifier.isPublic(constructors[0].getModifiers()));
+        checks.same("modifiers of the constructor", constructors[0].getModifiers(), Modifier.PUBLIC);
+        checks.same("exceptions of the constructor", constructors[0].getExceptionTypes().length, 0);
+        checks.same("class above", ChargePark.class.getSuperclass().getName(), "java.lang.Object");
+        checks.same("interfaces", ChargePark.class.getInterfaces().length, 0);
+        checks.same("package", ChargePark.class.getPackageName(), "");
         checks.same("methods", openMethods().toString(), sorted(METHODS).toString());
         checks.same("constants", openFields(checks).toString(), sorted(CONSTANTS).toString());
         checks.no("a private method has a public one's name", privateNameIsPublic());
@@ -47,14 +68,25 @@ public final class FaceTest {
             if (method.isSynthetic() || Modifier.isPrivate(method.getModifiers())) {
                 continue;
             }
-            StringBuilder text = new StringBuilder(method.getName()).append('(');
-            for (int k = 0; k < method.getParameterCount(); k++) {
-                text.append(k > 0 ? "," : "").append(method.getParameterTypes()[k].getName());
-            }
-            list.add(text.append(')').append(method.getReturnType().getName()).toString());
+            list.add(told(method));
         }
         Collections.sort(list);
         return list;
+    }
+
+    /** A method as the document's face tells it; in front of it what it is besides public. */
+    private static String told(Method method) {
+        int besidesPublic = method.getModifiers() & ~Modifier.PUBLIC;
+        StringBuilder text = new StringBuilder(besidesPublic == 0 ? "" : Modifier.toString(besidesPublic) + " ");
+        text.append(method.getReturnType().getName()).append(' ').append(method.getName()).append('(');
+        for (int k = 0; k < method.getParameterCount(); k++) {
+            text.append(k > 0 ? "," : "").append(method.getParameterTypes()[k].getName());
+        }
+        text.append(')');
+        for (int k = 0; k < method.getExceptionTypes().length; k++) {
+            text.append(k == 0 ? " throws " : " ").append(method.getExceptionTypes()[k].getSimpleName());
+        }
+        return text.toString();
     }
 
     private static List<String> openFields(Checks checks) {
